@@ -744,7 +744,7 @@ public final class HeadBudgets {
         // No mark is kept with the deed revoked: undoing the revoking would have to find and
         // clear it. The revoking is later, so it is remembered as long as that deed is.
         boolean wasRevoked(int number) {
-            for (int index = 0; index < held && index < MOST_DEEDS; index++) {
+            for (int index = 0; index < MOST_DEEDS; index++) {
                 Deed deed = recall(index);
                 if (deed != null && deed.kind == REVOKE && deed.subject == number) {
                     return true;

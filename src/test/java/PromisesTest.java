@@ -19,6 +19,7 @@ public final class PromisesTest {
         promise2TheConditionsInTheirOrder();
         promise3Allot();
         promise4Freeze();
+        promise4FromTheRootToTheGreatestDepth();
         promise5SetShare();
         promise6SetCarried();
         promise7Commit();
@@ -35,6 +36,7 @@ public final class PromisesTest {
         promise12UndoOfEachKind();
         promise12ForgottenDeeds();
         promise13RevokeVirement();
+        promise13NotAgainThoughTheTakerIsRich();
         promise13RevokeCommitment();
         promise13WhatCannotBeRevoked();
         promise13WithUndo();
@@ -172,6 +174,23 @@ public final class PromisesTest {
         due("head 4", x.freeze(4, 1), INVALID);
         due("head -1", x.freeze(-1, 1), INVALID);
         due("is a deed", x.deed(0), 2);
+    }
+
+    private static void promise4FromTheRootToTheGreatestDepth() {
+        promise = "4";
+        HeadBudgets x = new HeadBudgets();
+        for (int above = 0; above < 4; above++) {
+            x.make(above, 9 - above);
+        }
+        x.allot(4, 10);
+        due("the root", x.freeze(0, 1), 5);
+        due("barred at depth 4", x.head(4, 4), 1);
+        due("no commitment there", x.commit(4, 1), ILLEGAL);
+        due("not any more", x.freeze(0, 0), 0);
+        due("the total reaches it", x.total(0, 0), 10);
+        due("and the heads", x.total(0, 4), 5);
+        due("it is below the root", x.richest(0, 0), 4);
+        due("and may give to it", x.mostFrom(4, 0), 5);
     }
 
     private static void promise5SetShare() {
@@ -542,6 +561,32 @@ public final class PromisesTest {
         x.release(0);
         due("free again", x.revoke(6), 10);
         due("left nothing", x.head(1, 10), 0);
+    }
+
+    private static void promise13NotAgainThoughTheTakerIsRich() {
+        promise = "13";
+        HeadBudgets x = new HeadBudgets();
+        x.make(0, 3);
+        x.allot(0, 100);
+        x.allot(1, 1000);
+        x.vire(0, 1, 10);
+        x.vire(0, 1, 20);
+        due("the first", x.revoke(1), 10);
+        due("the first again", x.revoke(2), ILLEGAL);
+        due("the second", x.revoke(1), 20);
+        due("the second again", x.revoke(2), ILLEGAL);
+        due("the first once more", x.revoke(3), ILLEGAL);
+        for (int number = 0; number < 5; number++) {
+            due("a commitment", x.commit(1, 1), number);
+        }
+        due("the first virement", x.revoke(8), ILLEGAL);
+        due("another one", x.vire(0, 1, 30), 70);
+        due("revoked", x.revoke(0), 30);
+        due("and not again", x.revoke(1), ILLEGAL);
+        due("undo", x.undo(), 11);
+        due("revoked anew", x.revoke(0), 30);
+        due("taker", x.head(1, 5), 1000);
+        due("giver", x.head(0, 5), 100);
     }
 
     private static void promise13RevokeCommitment() {
