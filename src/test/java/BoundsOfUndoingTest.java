@@ -647,6 +647,7 @@ public final class BoundsOfUndoingTest {
         anUndoneRevokingOfOneOfTwo();
         aDeedInThePlaceOfARevokedOne();
         aRevokingIsNotRevoked();
+        otherDeedsDoNotRevoke();
     }
 
     private static void anUndoneRevokingOfAVirement() {
@@ -709,6 +710,20 @@ public final class BoundsOfUndoingTest {
         s.answers(10, "revoke", 1);
         s.illegal("revoke", 0);
         s.illegal("revoke", 1);
+        s.end();
+    }
+
+    // The virements are the fourth and the fifth deed; heads and commitments of these numbers come after.
+    private static void otherDeedsDoNotRevoke() {
+        Scene s = scene(13, "if it was revoked: not by deeds that merely name the same numbers");
+        virement(s, 10);
+        s.answers(70, "vire", 1, 2, 20);
+        for (int number = 0; number <= 5; number++) {
+            s.answers(number, "commit", 1, 1);
+        }
+        s.answers(30, "head", 2, 8);
+        s.answers(10, "revoke", 7);
+        s.answers(20, "revoke", 7);
         s.end();
     }
 
