@@ -464,6 +464,7 @@ public final class BoundsOfVirementsTest {
         allOf20HeadsLapse();
         whatDoesNotEndWithTheYear();
         theCommitmentKeepsItsYear();
+        aHeadMadeInALaterYear();
     }
 
     private static void theYear99DoesNotEnd() {
@@ -650,6 +651,21 @@ public final class BoundsOfVirementsTest {
         s.answers(0, "commitment", 0, 3);
         s.answers(1, "commitment", 1, 3);
         s.answers(2, "count", 0);
+        s.end();
+    }
+
+    private static void aHeadMadeInALaterYear() {
+        Scene s = scene(11, "for each head: nothing is carried forward to one made in a later year");
+        s.answers(10, "setCarried", 100);
+        s.answers(7, "allot", 0, 7);
+        s.answers(0, "endYear");
+        s.answers(1, "make", 0, 1);
+        for (int what = 5; what <= 10; what++) {
+            s.answers(0, "head", 1, what);
+        }
+        s.answers(7, "total", 0, 0);
+        s.answers(0, "endYear");
+        s.answers(0, "head", 1, 5);
         s.end();
     }
 }
