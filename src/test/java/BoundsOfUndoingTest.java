@@ -715,7 +715,7 @@ public final class BoundsOfUndoingTest {
 
     // The virements are the fourth and the fifth deed; heads and commitments of these numbers come after.
     private static void otherDeedsDoNotRevoke() {
-        Scene s = scene(13, "if it was revoked: not by deeds that merely name the same numbers");
+        Scene s = scene(13, "if it was revoked, or is no commitment: not by deeds that merely name the same numbers");
         virement(s, 10);
         s.answers(70, "vire", 1, 2, 20);
         for (int number = 0; number <= 5; number++) {
@@ -723,7 +723,11 @@ public final class BoundsOfUndoingTest {
         }
         s.answers(30, "head", 2, 8);
         s.answers(10, "revoke", 7);
+        s.illegal("revoke", 0);
         s.answers(20, "revoke", 7);
+        s.illegal("revoke", 0);
+        s.illegal("revoke", 1);
+        s.answers(6, "count", 3);
         s.end();
     }
 
